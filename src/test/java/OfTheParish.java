@@ -411,6 +411,11 @@ final class OfTheParish extends Part {
         fault("grown 0 0 0 ", 12);
         fault("flood 1;", 8);
         fault("flood 1;chil", 12);
+        // Numbers told ahead, greater than there are children, are not taken for those that are missing.
+        fault("grown 6 9 60 9;age", 18);
+        fault("grown 6 9 60 9;gift", 19);
+        fault("grown 6 9 60 9;flood", 20);
+        fault(() -> plain(0, 0, 0), "grown 6 9 60 9;child", 20);
     }
 
     private void aNumberThatMayNotBeIsItsFirstDigit() {
