@@ -1316,41 +1316,42 @@ public final class ChosenBackAtNine {
             kind = parish.kinds[grown];
             m = grown;
             k = parish.as[grown];
-            return run(move, kind, x, 0);
+            return run(this, move, kind, x, 0);
         }
 
-        private int run(int move, int from, int x, int depth) {
+        private static int run(Stage stage, int move, int from, int x, int depth) {
             int owner = ownerOf(move, from);
             if (owner == NONE || depth > DEEPEST) {
                 return 0;
             }
             int body = BODIES[3 * owner + move];
-            begin(body);
+            stage.begin(body);
             int above = Kinds.above(owner);
             int deeper = depth + 1;
             switch (body) {
                 case 10:
-                    return x + m;
+                    return x + stage.m;
                 case 11:
-                    return run(PLAYS, kind, x, deeper) * 2;
+                    return run(stage, PLAYS, stage.kind, x, deeper) * 2;
                 case 12:
-                    return run(GIVES, kind, x, deeper) ^ run(PLAYS, kind, x - k, deeper);
+                    return run(stage, GIVES, stage.kind, x, deeper)
+                            ^ run(stage, PLAYS, stage.kind, x - stage.k, deeper);
                 case 20:
-                    return run(PLAYS, above, x, deeper) + k;
+                    return run(stage, PLAYS, above, x, deeper) + stage.k;
                 case 30:
-                    return run(GIVES, above, x, deeper) * 3;
+                    return run(stage, GIVES, above, x, deeper) * 3;
                 case 40:
-                    return run(GIVES, above, x + 1, deeper);
+                    return run(stage, GIVES, above, x + 1, deeper);
                 case 50:
-                    return -run(BOWS, above, x, deeper);
+                    return -run(stage, BOWS, above, x, deeper);
                 case 51:
-                    return run(PLAYS, above, x, deeper) - m;
+                    return run(stage, PLAYS, above, x, deeper) - stage.m;
                 case 60:
-                    return run(BOWS, above, x, deeper) ^ 5;
+                    return run(stage, BOWS, above, x, deeper) ^ 5;
                 case 70:
-                    return run(PLAYS, above, x, deeper) * 2;
+                    return run(stage, PLAYS, above, x, deeper) * 2;
                 default:
-                    return run(GIVES, above, x - k, deeper);
+                    return run(stage, GIVES, above, x - stage.k, deeper);
             }
         }
 

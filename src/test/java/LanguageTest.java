@@ -5,7 +5,9 @@ import java.lang.reflect.Method;
 import java.lang.reflect.Modifier;
 import java.nio.file.Files;
 import java.nio.file.Path;
+import java.util.Map;
 import java.util.Set;
+import java.util.TreeMap;
 import java.util.TreeSet;
 import java.util.regex.Matcher;
 import java.util.regex.Pattern;
@@ -13,21 +15,19 @@ import java.util.regex.Pattern;
 /** The face of the document, and those rules of LANGUAGE.md that can be seen from the class and its text. */
 public final class LanguageTest {
     private static final Check CHECK = new Check("LanguageTest");
-    private static final String FACE = "act(int,int,int)int age(int,int)int ahead(int,int,int)int by(int,int)int "
-            + "child(int,int,int,int,int)int childOf(int,int)int choose(int)int chooses(int,int)int "
-            + "copy(int,int,int,int,int)int drawn(int)int element(int,int)long fault()int favourite(int)int "
-            + "flood(int)int gift(int,int,int)int grown(int,int,int,int)int grownOf(int,int)int holds(int)int "
-            + "image()int judge(int,int)int ninth(int)int parish(int)int picks(int)int pull(int,int,int)int "
-            + "restore()int row(int,int,int)int says(int,int)int seed(int)int set(int,int,long)int "
-            + "show(int,int)int status(int)int tastes(int,int,int,int)int trace(int)int trades(int)int "
-            + "two(int,int,int,int)int woo(int,int,int)int years(int)int";
+    private static final Pattern METHOD = Pattern.compile("(?m)^    public (int|long) (\\w+)\\((.*)\\);$");
+    private static final Pattern CONSTANT = Pattern.compile("(?m)^    public static final int (\\w+) = (-?\\d+);$");
     private static final String[] FORBIDDEN = {
         "\\b(throws?|try|catch|finally|synchronized|assert|import|package|volatile|transient|native|var)\\b",
         "\\b(Object|Exception|Error|Thread|getClass)\\b",
         "\\bSystem\\.(?!arraycopy)", "Exact\\s*\\(", "->", "::", "@"};
 
+    private static String document = "";
+
     public static void main(String[] args) throws IOException {
+        document = Files.readString(Path.of(args[0], "../shared/DOC.md"));
         face();
+        constants();
         Class<?>[] inside = ChosenBackAtNine.class.getDeclaredClasses();
         CHECK.due("classes, twelve at most", inside.length <= 11 ? 1 : 0, 1);
         for (Class<?> c : inside) {
@@ -48,8 +48,20 @@ public final class LanguageTest {
         return s.append(")").append(m.getReturnType().getSimpleName()).toString();
     }
 
+    /** The face as the document writes it: row(int,int,int)int and so on. */
+    private static Set<String> faceOfTheDocument() {
+        Set<String> face = new TreeSet<>();
+        Matcher m = METHOD.matcher(document);
+        while (m.find()) {
+            face.add(m.group(2) + "(" + m.group(3).replaceAll(" \\w+(, )?", ",").replaceAll(",$", "") + ")"
+                    + m.group(1));
+        }
+        return face;
+    }
+
     private static void face() {
-        Set<String> due = new TreeSet<>(Set.of(FACE.split(" ")));
+        Set<String> due = faceOfTheDocument();
+        CHECK.due("methods of the document's face", due.size(), 37);
         Class<?> c = ChosenBackAtNine.class;
         for (Method m : c.getDeclaredMethods()) {
             if (!Modifier.isPrivate(m.getModifiers())) {
@@ -58,21 +70,43 @@ public final class LanguageTest {
             }
         }
         CHECK.due("missing " + due, due.size(), 0);
-        for (Field f : c.getDeclaredFields()) {
-            if (!Modifier.isPrivate(f.getModifiers())) {
-                CHECK.due(f.getName() + " is NONE", f.getName().equals("NONE") ? f.getModifiers() : 0,
-                        Modifier.PUBLIC | Modifier.STATIC | Modifier.FINAL);
-            }
-        }
         Constructor<?>[] constructors = c.getDeclaredConstructors();
         CHECK.due("one constructor", constructors.length, 1);
         CHECK.due("a public one", constructors[0].getModifiers(), Modifier.PUBLIC);
+        CHECK.due("without parameters", constructors[0].getParameterCount(), 0);
         CHECK.due("final", c.getModifiers(), Modifier.PUBLIC | Modifier.FINAL);
+    }
+
+    private static void constants() {
+        Map<String, Integer> due = new TreeMap<>();
+        Matcher m = CONSTANT.matcher(document);
+        while (m.find()) {
+            due.put(m.group(1), Integer.parseInt(m.group(2)));
+        }
+        CHECK.due("constants of the document's face", due.size(), 1);
+        for (Field f : ChosenBackAtNine.class.getDeclaredFields()) {
+            if (!Modifier.isPrivate(f.getModifiers())) {
+                Integer value = due.remove(f.getName());
+                CHECK.due(f.getName() + " is of the face", value == null ? 0 : 1, 1);
+                CHECK.due(f.getName() + " is a constant", f.getModifiers(),
+                        Modifier.PUBLIC | Modifier.STATIC | Modifier.FINAL);
+                CHECK.due(f.getName(), valueOf(f), value == null ? 0 : value);
+            }
+        }
+        CHECK.due("missing " + due, due.size(), 0);
+    }
+
+    private static int valueOf(Field constant) {
+        try {
+            return constant.getInt(null);
+        } catch (ReflectiveOperationException e) {
+            throw new IllegalStateException(e);
+        }
     }
 
     private static void members(Class<?> c) {
         Set<String> names = new TreeSet<>();
-        for (String face : FACE.split(" ")) {
+        for (String face : faceOfTheDocument()) {
             names.add(face.substring(0, face.indexOf('(')));
         }
         for (Method m : c.getDeclaredMethods()) {
